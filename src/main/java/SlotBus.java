@@ -292,11 +292,6 @@ public final class SlotBus {
         private int base;
         private int every;
 
-        Message() {
-            // No message has every 0: so the divisor is good before there is one, too.
-            every = 1;
-        }
-
         void put(int newId, int newValue, int newBase, int newEvery) {
             waits = true;
             id = newId;
