@@ -177,7 +177,8 @@ public final class SlotBus {
     }
 
     private static int limit(int number, int most) {
-        return Math.max(-most, Math.min(most, number));
+        int notAbove = number > most ? most : number;
+        return notAbove < -most ? -most : notAbove;
     }
 
     private void passTick() {
@@ -205,9 +206,10 @@ public final class SlotBus {
             toLose--;
             return;
         }
+        boolean noise = Words.isNoise(lastWord);
         for (int i = 0; i < NODES; i++) {
             if (i != sender && nodes[i].isAwake()) {
-                nodes[i].hear(lastWord);
+                nodes[i].hear(lastWord, noise);
             }
         }
     }
@@ -470,7 +472,7 @@ public final class SlotBus {
         int heardInBoth() {
             int heard = 0;
             for (int i = 0; i < NODES; i++) {
-                if (has(i, false) && has(i, true)) {
+                if (hasBoth(i)) {
                     heard++;
                 }
             }
@@ -480,7 +482,7 @@ public final class SlotBus {
         int middleChange() {
             middle.beginWithZero();
             for (int i = 0; i < NODES; i++) {
-                if (has(i, false) && has(i, true)) {
+                if (hasBoth(i)) {
                     middle.add(odd[i] - even[i]);
                 }
             }
@@ -490,11 +492,15 @@ public final class SlotBus {
         int middleInOdd() {
             middle.beginWithZero();
             for (int i = 0; i < NODES; i++) {
-                if (has(i, true)) {
+                if (odd[i] != NONE) {
                     middle.add(odd[i]);
                 }
             }
             return middle.answer();
+        }
+
+        private boolean hasBoth(int sender) {
+            return even[sender] != NONE && odd[sender] != NONE;
         }
     }
 
@@ -516,6 +522,8 @@ public final class SlotBus {
         private static final int PAUSE_BEGINS = 60;
         private static final int MOST_DEVIATION = 3;
         private static final int LAST_LEADING_CYCLE = 11;
+        private static final int ENOUGH_QUIET = 160;
+        private static final int MORE_QUIET_PER_NODE = 20;
 
         private final int index;
         private final int slowness;
@@ -577,8 +585,7 @@ public final class SlotBus {
             return wordToSend();
         }
 
-        void hear(long word) {
-            boolean noise = Words.isNoise(word);
+        void hear(long word, boolean noise) {
             if (state == LISTENING) {
                 search.quiet = 0;
                 if (!noise && Words.startupIn(word)) {
@@ -613,7 +620,7 @@ public final class SlotBus {
 
         private void passListening() {
             search.passMicrotick();
-            if (isStarter() && search.quiet == 160 + 20 * index) {
+            if (isStarter() && search.quiet == ENOUGH_QUIET + MORE_QUIET_PER_NODE * index) {
                 timer.begin(0, 0, 0);
                 enterTime(LEADING, 0);
             }

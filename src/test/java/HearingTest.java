@@ -18,6 +18,7 @@ public final class HearingTest {
         anotherFirstOne();
         aFirstOneIsForgotten();
         oldFirstOneGivesWay();
+        ninetyIsTheEdge();
         ratesAndOffsets();
         ownIdIsNoDeviation();
         CHECKS.end();
@@ -276,6 +277,43 @@ public final class HearingTest {
         CHECKS.due("slot 1 of cycle 13", b.bus.state(3), 3);
         CHECKS.due("m", b.bus.clock(3, 0), 14);
         CHECKS.due("cycle", b.bus.clock(3, 1), 13);
+    }
+
+    /**
+     * Node 3 hears a first one of id 1 in tick 1002, and in tick 1094 the frame of this id and cycle; of the
+     * ticks since it was switched on, in 960, a slowness of 22 leaves it 41 and 131, one of 11 leaves it 41 and 132.
+     */
+    private static Bench secondLate(int slowness, int id, int cycle) {
+        Bench b = withListener(slowness << 24);
+        b.to(990);
+        b.bus.post(0, 5, 1, 0, 2);
+        b.bus.post(1, 8, 2, 1, 2);
+        b.forge(b.bus.encode(5, 10, false, 1), b.bus.encode(1, 10, true, 0));
+        b.to(1043);
+        b.forge(b.bus.encode(1, 11, true, 0), b.bus.encode(1, 11, false, 0));
+        b.to(1093);
+        b.forge(b.bus.encode(8, 11, false, 2), b.bus.encode(id, cycle, true, 0));
+        b.to(1094);
+        CHECKS.due("the forged word", b.bus.last(), b.bus.encode(id, cycle, true, 0));
+        return b;
+    }
+
+    private static void ninetyIsTheEdge() {
+        Bench joins = secondLate(22, 1, 11);
+        CHECKS.due("it joins at 90", joins.bus.state(3), 3);
+        CHECKS.due("rate", joins.bus.clock(3, 2), 4);
+        CHECKS.due("it does not at 91", secondLate(11, 1, 11).bus.state(3), 1);
+        for (int slowness : new int[] {22, 11}) {
+            Bench b = secondLate(slowness, 2, 10);
+            b.bus.post(0, 6, 3, 0, 4);
+            b.to(1133);
+            b.forge(b.bus.encode(2, 12, true, 0), b.bus.encode(2, 12, false, 0));
+            b.to(1165);
+            b.forge(b.bus.encode(6, 12, false, 3), b.bus.encode(2, 11, true, 0));
+            b.to(1166);
+            CHECKS.due("the forged word", b.bus.last(), b.bus.encode(2, 11, true, 0));
+            CHECKS.due("another id is the first one at 91 only", b.bus.state(3), slowness == 22 ? 1 : 3);
+        }
     }
 
     /**
