@@ -20,6 +20,13 @@ final class Bench {
         return b;
     }
 
+    /** The trio and node 3, with the same times. */
+    static Bench quartet() {
+        Bench b = trio();
+        b.bus.power(3);
+        return b;
+    }
+
     /** Two active starters with the times of the trio. */
     static Bench duo(int slow) {
         Bench b = new Bench(slow);
@@ -27,6 +34,23 @@ final class Bench {
         b.to(164);
         b.bus.power(1);
         return b;
+    }
+
+    /**
+     * Both starters lead without having heard each other: node 1's cycle c begins at tick 180 + 80 c, node 0's
+     * so many ticks later (-20 .. 3). They stand at the tick at which node 0 was switched on.
+     */
+    static Bench twoLeaders(int slow, int later) {
+        Bench b = new Bench(slow);
+        b.bus.power(1);
+        b.to(20 + later);
+        b.bus.power(0);
+        return b;
+    }
+
+    /** How many microticks pass in the first so many ticks of a node that was switched on. */
+    static int passed(int slowness, int ticks) {
+        return (1000 - slowness) * ticks / 1000;
     }
 
     /** Runs up to this tick; answers how many frames were sent meanwhile. */

@@ -90,6 +90,14 @@ final class PlainModel {
         return Long.parseLong(all + check(all, 24, 0xFEDCBA, 0x5D6DCB), 2);
     }
 
+    /** A word whose check of 11 bits is wrong in these bits, while that of 24 bits is right. */
+    static long wordWithWrongHead(int id, int cycle, int startup, int value, int wrongBits) {
+        String head = bits(id, 5) + bits(cycle, 6) + startup;
+        long headCheck = Long.parseLong(check(head, 11, 0x1A, 0x385), 2) ^ wrongBits;
+        String all = head + bits(headCheck, 11) + bits(value, 10);
+        return Long.parseLong(all + check(all, 24, 0xFEDCBA, 0x5D6DCB), 2);
+    }
+
     String decode(long word) {
         if (word < 0 || word >= 1L << 57) {
             return ARGUMENT;
