@@ -128,6 +128,15 @@ public final class CycleTest {
         CHECKS.due("given at 42", late.to(1043), 0);
         late.to(1070);
         sends("in the next cycle", late, 1082, PlainModel.word(5, 11, 0, 1));
+        // "From 60 on is the PAUSE": the number is 9 up to 40 of the next cycle, but there is no minislot.
+        Bench pause = Bench.trio();
+        pause.to(1018);
+        pause.bus.post(2, 9, 1, 0, 1);
+        CHECKS.due("number", pause.bus.clock(2, 5), 9);
+        CHECKS.due("nothing in the pause", pause.to(1040), 0);
+        CHECKS.due("three slots", pause.to(1079), 3);
+        CHECKS.due("number", pause.bus.clock(2, 5), 9);
+        sends("in the next cycle", pause, 1098, PlainModel.word(9, 11, 0, 1));
     }
 
     // "the cycle modulo the message's EVERY is its BASE"

@@ -8,10 +8,21 @@ import java.util.TreeSet;
 /** The class has the document's face and nothing else that could be seen. */
 public final class FaceTest {
     private static final String[] FACE = {
-        "void power(int)", "int off(int)", "int run(int)", "void value(int, int)",
-        "void post(int, int, int, int, int)", "void disturb(long)", "int lose(int)", "int state(int)",
-        "int clock(int, int)", "int deviation(int, int, boolean)", "int got(int, int)", "int frames()",
-        "long last()", "long encode(int, int, boolean, int)", "int decode(long)"};
+        "void power(int) IllegalArgumentException IllegalStateException",
+        "int off(int) IllegalArgumentException",
+        "int run(int) IllegalArgumentException",
+        "void value(int, int) IllegalArgumentException IllegalStateException",
+        "void post(int, int, int, int, int) IllegalArgumentException IllegalStateException",
+        "void disturb(long) IllegalArgumentException",
+        "int lose(int) IllegalArgumentException",
+        "int state(int) IllegalArgumentException",
+        "int clock(int, int) IllegalArgumentException IllegalStateException",
+        "int deviation(int, int, boolean) IllegalArgumentException NoSuchElementException",
+        "int got(int, int) IllegalArgumentException NoSuchElementException",
+        "int frames()",
+        "long last() NoSuchElementException",
+        "long encode(int, int, boolean, int) IllegalArgumentException",
+        "int decode(long) IllegalArgumentException IllegalStateException"};
 
     public static void main(String[] args) {
         Checks checks = new Checks("FaceTest");
@@ -41,7 +52,11 @@ public final class FaceTest {
                 for (Class<?> type : method.getParameterTypes()) {
                     text.append(text.charAt(text.length() - 1) == '(' ? "" : ", ").append(type);
                 }
-                found.add(text.append(")").toString());
+                text.append(")");
+                for (Class<?> thrown : method.getExceptionTypes()) {
+                    text.append(' ').append(thrown.getSimpleName());
+                }
+                found.add(text.toString());
             }
         }
         return found;

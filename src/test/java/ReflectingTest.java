@@ -10,6 +10,7 @@ public final class ReflectingTest {
         limitsOfTheRate();
         lengthsAtTheLimits();
         greatestOffsets();
+        theMiddleOfOneNumber();
         deviationsInOneCycleAlone();
         onlyOddCyclesReflect();
         newRateComesBehindTheOddCycle();
@@ -274,6 +275,21 @@ public final class ReflectingTest {
         CHECKS.due("tick " + b.now + ": state(" + node + ")", b.bus.state(node), before);
         b.to(tick);
         CHECKS.due("tick " + b.now + ": state(" + node + ")", b.bus.state(node), then);
+    }
+
+    // without any deviation it is "the middle of 0" alone
+    private static void theMiddleOfOneNumber() {
+        Bench b = Bench.duo(30 << 8);
+        b.to(1282);
+        CHECKS.due("rate before", b.bus.clock(1, 2), -3);
+        CHECKS.due("offset before", b.bus.clock(1, 3), 1);
+        b.bus.off(0);
+        b.to(1420);
+        CHECKS.due("passive", b.bus.state(1), 5);
+        clockIs(b, 1, 62, 15, -3, 0, 1);
+        b.to(1440);
+        CHECKS.due("the next cycle", b.bus.clock(1, 1), 16);
+        CHECKS.due("the rate stays", b.bus.clock(1, 2), -3);
     }
 
     // the rate needs "a deviation in both cycles", the offset those "in the odd cycle"
