@@ -104,6 +104,7 @@ public final class BusTest {
         }
     }
 
+    // "its word is on the bus, joined by ^ with what it is DISTURBED by": that can be a right word, too
     private static void aDisturbedWordCanBeAnother() {
         Bench b = Bench.trio();
         b.to(960);
@@ -185,6 +186,7 @@ public final class BusTest {
         CHECKS.due("node 2 hears", b.bus.got(2, 9), 8);
     }
 
+    // "all other nodes that are not off or halted HEAR it"
     private static void offAndHaltedNodesDoNotHear() {
         Bench off = Bench.quartet();
         off.to(960);

@@ -275,6 +275,7 @@ public final class CycleTest {
         clockIs(c, 1, 59, 3, 0, 0, -1, 9);
     }
 
+    // "or a starter that is joining": another joiner is none
     private static void joinersThatAreNoStartersDoNotSend() {
         Bench b = Bench.quartet();
         b.to(780);

@@ -152,6 +152,7 @@ public final class InTimeHearingTest {
         }
     }
 
+    // "and the cycle is the node's: ... Otherwise, if the node is leading and startup is 1: it listens."
     private static void leadersListenAtAnotherCycle() {
         for (int cycle = 0; cycle < 64; cycle++) {
             for (int startup = 0; startup < 2; startup++) {
@@ -179,6 +180,7 @@ public final class InTimeHearingTest {
         CHECKS.due("it leads", b.bus.state(1), 2);
     }
 
+    // "if the node is leading": the others stay as they are
     private static void onlyLeadersListen() {
         // Node 3 joins, node 1 is active: a frame with startup of a wrong cycle, and one at a wrong time.
         Joined j = Joined.by(0, 42, 1);
@@ -245,6 +247,7 @@ public final class InTimeHearingTest {
         }
     }
 
+    // "A frame with an id from 5 to 9 and the node's cycle"
     private static void messagesOfAnotherCycleAreNot() {
         for (int cycle = 0; cycle < 64; cycle++) {
             Signals s = new Signals(0, 0);
@@ -369,6 +372,7 @@ public final class InTimeHearingTest {
         }
     }
 
+    // "its value the one that the node has GOT": "value (10)" bits are 0 .. 1023
     private static void valuesFromZeroToTheGreatest() {
         for (int value : new int[] {0, 1, 511, 512, 1023}) {
             Signals s = new Signals(0, 0);

@@ -402,6 +402,7 @@ public final class ListeningTest {
         return s;
     }
 
+    // "A node that begins to LISTEN has quiet and since 0, no first one, and no deviations."
     private static void listeningAgainForgetsTheFirstOne() {
         Signals s = listensAgain();
         // Slot 1 of cycle 7 is in tick 754, 72 behind.

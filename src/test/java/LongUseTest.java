@@ -22,6 +22,7 @@ public final class LongUseTest {
         CHECKS.due("call 512: state", b.bus.state(3), 4);
     }
 
+    // the same with a call that counts
     private static void manyLosses() {
         SlotBus bus = new SlotBus(0);
         for (int call = 1; call < 512; call++) {

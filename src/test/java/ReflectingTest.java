@@ -404,6 +404,7 @@ public final class ReflectingTest {
         stateIs(c, 780, 1, 3, 1);
     }
 
+    // "otherwise, if it is a starter or n is above 1, the count grows by 1, and with 2 it is active"
     private static void joiningOthers() {
         // Node 0 alone is heard up to cycle 5, nodes 0 and 1 from cycle 6 on.
         Bench b = Bench.trio();
@@ -428,6 +429,7 @@ public final class ReflectingTest {
         }
     }
 
+    // "otherwise it listens when n is 0"
     private static void joinersThatHearNobody() {
         // With a count of 1 both frames of cycle 8 are lost.
         Bench b = Bench.trio();

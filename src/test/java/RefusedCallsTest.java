@@ -86,6 +86,7 @@ public final class RefusedCallsTest {
         return b;
     }
 
+    // "NODES 0 .. 3"; "IllegalArgumentException: no such node"
     private static void takenAndRefused() {
         for (int node = -1; node <= 4; node++) {
             int n = node;
@@ -111,6 +112,8 @@ public final class RefusedCallsTest {
         statesTakenAndRefused();
     }
 
+    // "n is not 1 .. 200"; "value not 0 .. 1023"; "no such node or id"; "bits above bit 56";
+    // "n is below 0, or it would be more than 1000"
     private static void numbersTakenAndRefused() {
         SlotBus bus = new SlotBus(0);
         for (int n : new int[] {Integer.MIN_VALUE, -1, 0, 1, 2, 199, 200, 201, 202, Integer.MAX_VALUE}) {
@@ -145,6 +148,7 @@ public final class RefusedCallsTest {
         }
     }
 
+    // "it is neither off nor halted"; "the node is off"; "(Also of a halted one.)"; "it is off, listening or halted"
     private static void statesTakenAndRefused() {
         Bench b = Bench.trio();
         b.to(300);
@@ -242,6 +246,7 @@ public final class RefusedCallsTest {
         }
     }
 
+    // the document names IllegalArgumentException first; where both would be due, it comes
     private static void argumentsComeFirst() {
         SlotBus bus = new SlotBus(0);
         is("value of an off node", bus, ARGUMENT, b -> value(b, 0, 1024));
